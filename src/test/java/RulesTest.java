@@ -1,0 +1,132 @@
+import java.io.IOException;
+import java.lang.reflect.Constructor;
+import java.lang.reflect.Field;
+import java.lang.reflect.Method;
+import java.lang.reflect.Modifier;
+import java.nio.charset.StandardCharsets;
+import java.nio.file.Files;
+import java.nio.file.Paths;
+import java.util.Arrays;
+import java.util.HashSet;
+import java.util.List;
+import java.util.Set;
+import java.util.TreeSet;
+import java.util.regex.Matcher;
+import java.util.regex.Pattern;
+
+/** What ../shared/LANGUAGE.md asks of src/main/java/WayBoxes.java, as far as it can be seen from outside. */
+public final class RulesTest {
+    private static final Due due = new Due("RulesTest");
+    private static final String FACE = "act(int,int,int)int as(int,int)int box(int,int)int "
+            + "cell(int,int,int,int)int copy(int)int count(int)int fall(int)int feed(long,int)int hold(int)int "
+            + "image()int latest(int)int lead(int,int,int)int led(int,int)int letter(int,int,int,int)int "
+            + "lines(int,int)int orders(int,int,int,int,int)int part(int,int,int,int)int release()int "
+            + "row(int)int send(int,int,int,int)int shown(int,int,int,int,int)int text()int trace(int)int "
+            + "undo()int ways(int,int,int,int)int whole(int,int,int)int work(int,int,int,int,int)int";
+
+    public static void main(String[] args) throws IOException {
+        face();
+        constants();
+        classesInside();
+        String source = new String(Files.readAllBytes(Paths.get("src/main/java/WayBoxes.java")),
+                StandardCharsets.UTF_8);
+        String bare = source.replaceAll("(?s)/\\*.*?\\*/", "").replaceAll("//[^\n]*", "");
+        words(bare);
+        imports(bare);
+        methodLengths(bare);
+        due.end();
+    }
+
+    private static String types(Class<?>[] types) {
+        StringBuilder all = new StringBuilder();
+        for (Class<?> type : types) all.append(all.length() == 0 ? "" : ",").append(type.getName());
+        return "(" + all + ")";
+    }
+
+    private static void face() {
+        Set<String> seen = new TreeSet<>();
+        for (Method method : WayBoxes.class.getDeclaredMethods()) {
+            if (Modifier.isPublic(method.getModifiers())) {
+                seen.add(method.getName() + types(method.getParameterTypes()) + method.getReturnType());
+            } else {
+                due.isTrue(method + " is private", Modifier.isPrivate(method.getModifiers()));
+            }
+        }
+        due.isTrue("the face: " + seen, seen.equals(new TreeSet<>(Arrays.asList(FACE.split(" ")))));
+        Constructor<?>[] constructors = WayBoxes.class.getDeclaredConstructors();
+        due.is("constructors", 1, constructors.length);
+        due.isTrue("public WayBoxes()", Modifier.isPublic(constructors[0].getModifiers())
+                && constructors[0].getParameterCount() == 0);
+        int modifiers = WayBoxes.class.getModifiers();
+        due.isTrue("public final", Modifier.isPublic(modifiers) && Modifier.isFinal(modifiers));
+    }
+
+    private static void constants() {
+        due.is("NONE", -1, WayBoxes.NONE);
+        due.is("BAD", -2, WayBoxes.BAD);
+        due.is("STATE", -3, WayBoxes.STATE);
+        due.is("FULL", -4, WayBoxes.FULL);
+        Set<String> open = new TreeSet<>();
+        for (Field field : WayBoxes.class.getDeclaredFields()) {
+            if (!Modifier.isPrivate(field.getModifiers())) open.add(field.getName());
+        }
+        due.isTrue("constants: " + open, open.toString().equals("[BAD, FULL, NONE, STATE]"));
+    }
+
+    private static void classesInside() {
+        Class<?>[] inside = WayBoxes.class.getDeclaredClasses();
+        due.isTrue("some twelve classes", inside.length + 1 <= 12);
+        Set<String> names = new HashSet<>();
+        for (Method method : WayBoxes.class.getMethods()) {
+            if (method.getDeclaringClass() == WayBoxes.class) names.add(method.getName());
+        }
+        for (Class<?> one : inside) {
+            due.isTrue(one + " is static", Modifier.isStatic(one.getModifiers()));
+            due.isTrue(one + " is not public", !Modifier.isPublic(one.getModifiers()));
+            int fields = 0;
+            for (Field field : one.getDeclaredFields()) {
+                if (!Modifier.isStatic(field.getModifiers())) fields++;
+                else due.isTrue(field + " is final", Modifier.isFinal(field.getModifiers()));
+            }
+            due.isTrue(one + " has some twenty fields", fields <= 20);
+            for (Method method : one.getDeclaredMethods()) {
+                due.isTrue(method + " has no name of the face", !names.contains(method.getName()));
+                due.isTrue(method + " takes at most seven", method.getParameterCount() <= 7);
+            }
+        }
+    }
+
+    private static void words(String bare) {
+        List<String> never = Arrays.asList("throw", "throws", "try", "catch", "finally", "synchronized", "assert",
+                "instanceof Object", "volatile", "transient", "native", "double", "float", "Object", "System.out",
+                "Random", "Thread", "hashCode", "equals", "toString", "Exact");
+        for (String word : never) {
+            due.isTrue("no " + word, !Pattern.compile("\\b" + Pattern.quote(word) + "\\b").matcher(bare).find());
+        }
+        for (String sign : new String[] {"->", "::", "\"", "@", "...", "?>"}) {
+            due.isTrue("no " + sign, !bare.contains(sign));
+        }
+        due.isTrue("signs 1 to 127", bare.chars().allMatch(c -> c > 0 && c < 128));
+        Matcher calls = Pattern.compile("\\b(System|Arrays|Integer|Long|Math)\\.(\\w+)").matcher(bare);
+        List<String> may = Arrays.asList("System.arraycopy", "Arrays.fill", "Integer.compare", "Integer.bitCount");
+        while (calls.find()) due.isTrue("may call " + calls.group(), may.contains(calls.group()));
+    }
+
+    private static void imports(String bare) {
+        Matcher imports = Pattern.compile("import ([^;]+);").matcher(bare);
+        while (imports.find()) due.isTrue("import " + imports.group(1), imports.group(1).equals("java.util.Arrays"));
+        due.isTrue("no package", !Pattern.compile("\\bpackage\\b").matcher(bare).find());
+    }
+
+    /** A method begins at a line that ends with ") {" four or eight places in, and ends at a } there. */
+    private static void methodLengths(String bare) {
+        String[] lines = bare.split("\n");
+        for (int from = 0; from < lines.length; from++) {
+            Matcher head = Pattern.compile("( {4}| {8})\\S.*\\) \\{").matcher(lines[from]);
+            if (!head.matches() || lines[from].trim().matches("(if|for|while|switch|\\}).*")) continue;
+            int to = from;
+            while (to < lines.length && !lines[to].equals(head.group(1) + "}")) to++;
+            due.isTrue("short: " + lines[from].trim(), to - from <= 60);
+        }
+    }
+}
