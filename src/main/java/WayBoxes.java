@@ -278,11 +278,10 @@ public final class WayBoxes {
 
     public int act(int box, int act, int x) {
         Box told = now.boxAt(box);
-        boolean is = told != null && act >= 0 && act < ACTS;
+        Text text = told == null ? null : now.textAt(told.text);
         now.trace.ran = 0;
-        if (!is) return 0;
-        Text text = now.textAt(told.text);
-        return text == null ? 0 : now.trace.runs(told, text.lineCount, act, x);
+        if (text == null || act < 0 || act >= ACTS) return 0;
+        return now.trace.runs(told, text.lineCount, act, x);
     }
 
     public int trace(int i) {
@@ -551,7 +550,7 @@ public final class WayBoxes {
             tape = told;
             size = length;
             at = 0;
-            // What a FAULT left half made is used again.
+            // What a FAULT left half made is used again: many a TAPE holds no TEXT.
             if (text == null) text = new Text();
             text.clear();
             for (int line = 0; line < MOST_LINES; line++) {
@@ -771,7 +770,6 @@ public final class WayBoxes {
         }
 
         int runs(Box box, int lines, int act, int x) {
-            ran = 0;
             ownKind = box.kind;
             number = box.number;
             lineCount = lines;
@@ -814,13 +812,6 @@ public final class WayBoxes {
         private final int[] houses = new int[TALKS];
         private final int[] numbers = new int[TALKS];
         private final int[] passed = new int[TALKS];
-
-        void clear() {
-            begun = 0;
-            open = 0;
-            broken = 0;
-            Arrays.fill(passed, 0);
-        }
 
         void become(Watch other) {
             begun = other.begun;
@@ -877,7 +868,10 @@ public final class WayBoxes {
         /** In place of a form: two TEXTS side by side, not one behind the other. */
         static final int APART = -1;
 
-        /** Of each length of a row a stage of its own, so that a row goes on from its beginning's. */
+        /**
+         * Of each length of a row a stage of its own, so that a row goes on from its beginning's;
+         * that of length 0 is only read, and stays empty.
+         */
         private final Memory[] memories = new Memory[(DEEPEST + 1) * MOST_ORDERED];
         private final Watch[] watches = new Watch[DEEPEST + 1];
         private final Text[] texts = new Text[MOST_ORDERED];
@@ -911,8 +905,6 @@ public final class WayBoxes {
 
         /** How long the shortest row of 1 to d packets is that is looked for; 0: there is none. */
         int shortest(int d) {
-            for (int i = 0; i < MOST_ORDERED; i++) memories[i].clear();
-            watches[0].clear();
             for (int length = 1; length <= d && length <= DEEPEST; length++) {
                 if (finds(0, length)) return length;
             }

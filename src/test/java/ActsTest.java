@@ -194,7 +194,7 @@ public final class ActsTest {
         x.send(15, 1, 1, 8);
         x.letter(5, 0, 0, 0);
         x.act(0, 0, 0);
-        x.feed(0x2A3A, 2);
+        x.feed(0x7A7A7A, 3);
     }
 
     private static void allComesBack() {

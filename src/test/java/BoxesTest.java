@@ -106,6 +106,10 @@ public final class BoxesTest {
         // & binds before |, ! before both.
         holds("k=3|k=2&k=2", true);
         holds("(k=3|k=2)&k=2", false);
+        holds("k=3&(k=2|k=3)", true);
+        holds("k=3&(k=3|k=2)", true);
+        holds("k=2|(k=3&k=3)", true);
+        holds("k=3&(k=3&k=2)", false);
         holds("k=2&k=2|k=3", true);
         holds("k=2&(k=2|k=3)", false);
         holds("!k=2&k=2", false);
@@ -243,5 +247,10 @@ public final class BoxesTest {
         due.is("line 0", 0, x.latest(0));
         due.is("box 2", -1, x.latest(2));
         due.is("box -1", -1, x.latest(-1));
+        x = Due.boxes("1:p", "1:d;1:d;1:d;1:d;1:d;1:d;1:d;1:d");
+        due.is("no line for KIND 0", 1, x.work(0, 0, 0, 0, 0));
+        due.is("none did", -5, x.latest(0));
+        due.is("none of eight", 1, x.work(1, 0, 0, 0, 0));
+        due.is("none did", -5, x.latest(1));
     }
 }

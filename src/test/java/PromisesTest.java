@@ -126,6 +126,9 @@ public final class PromisesTest {
         breach(alphabet(moved, 0, 0, 0, 5, 0, 0, 0, 6, 1, 3, 0, 5), 3, 0, 3);
         breach(alphabet(moved, 0, 0, 0, 5, 0, 0, 0, 6, 1, 3, 0, 7), 3, 0, 3);
         breach(alphabet("0(n=6):g0=1;0(h=3&g0=0):d", 0, 0, 0, 5, 0, 0, 0, 6, 1, 3, 0, 6), 3, 0, 1);
+        breach(alphabet("*:p", 1, 0, 0, 5, 0, 1, 0, 5), 3, 0, 3, 0, 1);
+        // A TALK that is not OPEN has no N.
+        breach(alphabet("*:p", 1, 0, 0, 0, 0, 0, 3, 0), 3, 0, 3);
         // One TALK's own N again is not another one's.
         breach(alphabet("*:p", 0, 0, 0, 5, 0, 1, 0, 5), 3, 0, 3);
     }
@@ -146,6 +149,11 @@ public final class PromisesTest {
         breach(alphabet("*:p", 3, 0, 0, 0, 2, 0, 0, 0, 2, 0, 0, 0), 1, 1, 3, 0, 1);
         breach(alphabet("*:p", 3, 1, 0, 0, 2, 0, 0, 0, 4, 0, 0, 0, 5, 1, 0, 0), 1, 1, 3, 0, 3);
         breach(alphabet("*:p", 3, 1, 3, 0, 2, 0, 0, 0, 4, 0, 0, 0), 1, 1, 3, 1, 2);
+        // All five packets come into question.
+        int[] five = {0, 0, 3, 0, 1, 0, 3, 0, 2, 0, 3, 0, 3, 0, 3, 0, 4, 0, 1, 0};
+        breach(alphabet("*:p", five), 0, 0, 3, 4);
+        breach(alphabet("1:d", five), 0, 0, 3);
+        breach(alphabet("1:p;*:d", five), 2, 1, 3, 4, 4);
         // An ALPHABET without a packet has no rows.
         breach(alphabet("*:p"), 2, 0, 3);
     }

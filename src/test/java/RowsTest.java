@@ -189,6 +189,7 @@ public final class RowsTest {
         x.row(1);
         due.is("another one in THE ROW", -3, x.lead(0, 1, 1));
         due.is("of no talks, too", -3, x.lead(0, 1, 0));
+        due.is("the first one of THE ROW", -3, x.lead(2, 0, 1));
         due.is("BAD ahead of STATE", -2, x.lead(0, 1, -1));
         due.is("itself, in THE ROW", 0, x.lead(0, 0, 1));
         due.is("leads", 1, x.lead(0, 2, 1));

@@ -7,6 +7,7 @@ public final class TextsTest {
         feed();
         textNumbers();
         faults();
+        afterFaults();
         opens();
         lengths();
         lines();
@@ -56,6 +57,9 @@ public final class TextsTest {
         due.is("FULL ahead of a FAULT", -4, x.text());
         due.is("THE TAPE stays", 2, x.count(6));
         due.is("TEXTS stay", 8, x.count(0));
+        due.is("no TEXT 8", -1, x.lines(8, -1));
+        due.is("no TEXT 8", -1, x.box(0, 8));
+        due.is("TEXT 7", 1, x.lines(7, -1));
     }
 
     private static void fault(String bytes, int place) {
@@ -101,6 +105,9 @@ public final class TextsTest {
         fault("0(k)", 3);
         fault("0(k=", 4);
         fault("0(k=1", 5);
+        fault("0(k=):p", 4);
+        fault("0(k=&k=1):p", 4);
+        fault("0(t=1):p", 3);
         fault("0(k=1=2)", 5);
         fault("0(k+1=2)", 3);
         fault("0(k=1+1)", 5);
@@ -122,6 +129,27 @@ public final class TextsTest {
         good("3:t0=0");
         good("0:t0=10,s3=99,g2=k");
         good("0(k=1|h=2&n>0|!t0<s1):t3=g0-1+n-k,p;*:d");
+    }
+
+    /** What a FAULT's bytes held does not come into the next TEXT. */
+    private static void afterFaults() {
+        WayBoxes x = new WayBoxes();
+        String most = "0:s0=s0+1,g0=1,t0=1+1+1+1;1:s1=s1,g1=1,t0=1+1+1+1;2:s2=s2,g2=1,t0=1+1+1+1";
+        for (int i = 0; i < 4; i++) due.is("a FAULT", -11 - most.length(), Due.text(x, most + ";"));
+        due.is("a TEXT", 0, Due.text(x, "3:d,p,d"));
+        due.is("its lines", 1, x.lines(0, -1));
+        due.is("its acts", 3, x.lines(0, 0));
+        for (int cell = 0; cell < 8; cell++) {
+            due.is("part " + cell, 0, x.part(0, cell / 4, cell % 4, 0));
+            due.is("part " + cell, -5, x.part(0, cell / 4, cell % 4, 1));
+        }
+        for (int i = 0; i < 4; i++) due.is("a FAULT", -11 - most.length(), Due.text(x, most + ";"));
+        due.is("the same without one", 1, Due.text(x, most));
+        x.box(0, 1);
+        x.work(0, 0, 0, 2, 0);
+        due.is("its last SUM", 4, x.cell(0, 0, 0, 0));
+        x.box(0, 0);
+        due.is("the first TEXT's", 0, x.work(1, 0, 0, 3, 0));
     }
 
     /** At most 5 of ! and ( are open. */
