@@ -351,7 +351,7 @@ public final class WayBoxes {
         return d >= 1 && d <= DEEPEST;
     }
 
-    /** Where a CELL (t0 to t3, s0 to s3, g0 to g3: 0 to 11) stands in a MEMORY for a packet's talk and house. */
+    /** Where a CELL (t0 to t3, s0 to s3, g0 to g3: 0 to 11) of a talk or a house stands in a MEMORY. */
     private static int placeOf(int cell, int talk, int house) {
         if (cell < S * DIGITS) return talk * DIGITS + cell;
         if (cell < G * DIGITS) return S_CELLS + house * DIGITS + cell - S * DIGITS;
@@ -430,7 +430,7 @@ public final class WayBoxes {
         final int[] actCounts = new int[MOST_LINES];
         final int[] signs = new int[TAPE];
         int size;
-        /** Of s0 to s3 and g0 to g3: whether they stand anywhere (bits), and the LINE that makes them ONE. */
+        /** Of s0 to s3 and g0 to g3: which stand anywhere (bits), and the LINE that makes each ONE. */
         int stands;
         final int[] oneAt = new int[2 * DIGITS];
 
@@ -458,7 +458,7 @@ public final class WayBoxes {
 
         /** A TERM stands in the line that is being read; inSum: as a SUM's own first TERM. */
         void note(int term, boolean inSum) {
-            int cell = term - CELL_SIGN - DIGITS;
+            int cell = term - CELL_SIGN - S * DIGITS;
             if (cell < 0 || cell >= 2 * DIGITS) return;
             stands |= 1 << cell;
             if (!inSum && oneAt[cell] == NO_LINE) oneAt[cell] = lineCount - 1;
