@@ -101,7 +101,7 @@ public final class WayBoxes {
         if (told == null) return NONE;
         int refusal = refusalOf(talk, house, kind, n);
         if (refusal != 0) return refusal;
-        return told.takes(new Packet(talk, house, kind, n), now.textAt(told.text));
+        return told.steps(new Packet(talk, house, kind, n), now.textAt(told.text));
     }
 
     public int cell(int box, int letter, int digit, int of) {
@@ -487,9 +487,10 @@ public final class WayBoxes {
                 } else if (sign == OR) {
                     truths = (truths & 1) == 1 ? truths >> 1 | 1 : truths >> 1;
                 } else {
-                    int order = Integer.compare(value(signAt(at), packet, memory),
-                            value(signAt(at + 1), packet, memory));
-                    truths = truths << 1 | (order == sign - SAME ? 1 : 0);
+                    int left = value(signAt(at), packet, memory);
+                    int right = value(signAt(at + 1), packet, memory);
+                    boolean so = sign == LESS ? left < right : sign == SAME ? left == right : left > right;
+                    truths = truths << 1 | (so ? 1 : 0);
                     at += 2;
                 }
             }
@@ -735,7 +736,7 @@ public final class WayBoxes {
         }
 
         /** Works a packet itself, whatever it leads. */
-        int takes(Packet packet, Text its) {
+        int steps(Packet packet, Text its) {
             if (packet == null || its == null) return PASSED;
             latest = its.lineFor(packet, memory);
             return its.does(latest, packet, memory);
@@ -1046,7 +1047,7 @@ public final class WayBoxes {
                 Box stands = boxAt(row[place]);
                 Box works = stands == null ? null : boxAt(stands.led[packet.talk]);
                 if (works == null) continue;
-                int how = works.takes(packet, textAt(works.text));
+                int how = works.steps(packet, textAt(works.text));
                 if (how != PASSED) return 10 * place + how;
             }
             return 10 * rowSize + PASSED;

@@ -6,10 +6,14 @@ import java.lang.reflect.Modifier;
 import java.nio.charset.StandardCharsets;
 import java.nio.file.Files;
 import java.nio.file.Paths;
+import java.util.ArrayList;
 import java.util.Arrays;
+import java.util.HashMap;
 import java.util.HashSet;
 import java.util.List;
+import java.util.Map;
 import java.util.Set;
+import java.util.TreeMap;
 import java.util.TreeSet;
 import java.util.regex.Matcher;
 import java.util.regex.Pattern;
@@ -33,7 +37,9 @@ public final class RulesTest {
         String bare = source.replaceAll("(?s)/\\*.*?\\*/", "").replaceAll("//[^\n]*", "");
         words(bare);
         imports(bare);
+        loops(bare);
         methodLengths(bare);
+        callDepths(bare);
         due.end();
     }
 
@@ -108,7 +114,7 @@ public final class RulesTest {
         }
         due.isTrue("signs 1 to 127", bare.chars().allMatch(c -> c > 0 && c < 128));
         Matcher calls = Pattern.compile("\\b(System|Arrays|Integer|Long|Math)\\.(\\w+)").matcher(bare);
-        List<String> may = Arrays.asList("System.arraycopy", "Arrays.fill", "Integer.compare", "Integer.bitCount");
+        List<String> may = Arrays.asList("System.arraycopy", "Arrays.fill", "Integer.bitCount");
         while (calls.find()) due.isTrue("may call " + calls.group(), may.contains(calls.group()));
     }
 
@@ -118,15 +124,80 @@ public final class RulesTest {
         due.isTrue("no package", !Pattern.compile("\\bpackage\\b").matcher(bare).find());
     }
 
+    private static void loops(String bare) {
+        for (String endless : new String[] {"while \\(true\\)", "for \\([^;]*;\\s*;", "new \\w+\\([^;]*\\) \\{"}) {
+            due.isTrue("no " + endless, !Pattern.compile(endless).matcher(bare).find());
+        }
+    }
+
     /** A method begins at a line that ends with ") {" four or eight places in, and ends at a } there. */
-    private static void methodLengths(String bare) {
+    private static List<String> methods(String bare) {
+        List<String> methods = new ArrayList<>();
         String[] lines = bare.split("\n");
         for (int from = 0; from < lines.length; from++) {
             Matcher head = Pattern.compile("( {4}| {8})\\S.*\\) \\{").matcher(lines[from]);
             if (!head.matches() || lines[from].trim().matches("(if|for|while|switch|\\}).*")) continue;
             int to = from;
             while (to < lines.length && !lines[to].equals(head.group(1) + "}")) to++;
-            due.isTrue("short: " + lines[from].trim(), to - from <= 60);
+            methods.add(String.join("\n", Arrays.asList(lines).subList(from, Math.min(to + 1, lines.length))));
         }
+        return methods;
+    }
+
+    private static void methodLengths(String bare) {
+        for (String method : methods(bare)) {
+            due.isTrue("short: " + nameOf(method), method.split("\n").length <= 61);
+        }
+    }
+
+    private static String nameOf(String method) {
+        Matcher name = Pattern.compile("(\\w+)\\(").matcher(method);
+        return name.find() ? name.group(1) : "";
+    }
+
+    /** Calls that are no recursion go at most eight deep; methods of one name are taken for one. */
+    private static void callDepths(String bare) {
+        Map<String, Set<String>> calls = new TreeMap<>();
+        for (String method : methods(bare)) calls.computeIfAbsent(nameOf(method), name -> new TreeSet<>());
+        for (String method : methods(bare)) {
+            Matcher called = Pattern.compile("(\\w+)\\(").matcher(method.substring(method.indexOf('{')));
+            while (called.find()) {
+                if (calls.containsKey(called.group(1))) calls.get(nameOf(method)).add(called.group(1));
+            }
+        }
+        due.isTrue("methods are found", calls.size() > 80 && calls.get("orders").contains("shortest"));
+        Map<String, Integer> depths = new HashMap<>();
+        for (String name : calls.keySet()) {
+            int depth = depth(name, calls, depths);
+            due.isTrue(name + " goes " + depth + " deep", depth <= 8);
+        }
+    }
+
+    private static Set<String> reached(String name, Map<String, Set<String>> calls) {
+        Set<String> reached = new TreeSet<>();
+        List<String> next = new ArrayList<>(calls.get(name));
+        while (!next.isEmpty()) {
+            String called = next.remove(next.size() - 1);
+            if (reached.add(called)) next.addAll(calls.get(called));
+        }
+        return reached;
+    }
+
+    /** How many methods stand open at once at most; those of a recursion each once. */
+    private static int depth(String name, Map<String, Set<String>> calls, Map<String, Integer> depths) {
+        if (depths.containsKey(name)) return depths.get(name);
+        Set<String> together = new TreeSet<>();
+        together.add(name);
+        for (String other : reached(name, calls)) {
+            if (reached(other, calls).contains(name)) together.add(other);
+        }
+        int below = 0;
+        for (String one : together) {
+            for (String called : calls.get(one)) {
+                if (!together.contains(called)) below = Math.max(below, depth(called, calls, depths));
+            }
+        }
+        depths.put(name, together.size() + below);
+        return together.size() + below;
     }
 }
