@@ -355,6 +355,20 @@ public final class BoxEdgesTest {
             for (int box = -1; box <= 7; box++) noTraceThen(box, act);
         }
         due.is("a new one", 0, new WayBoxes().act(0, 0, 5));
+        String without = Seen.all(() -> {
+            WayBoxes x = Made.some();
+            x.act(0, 0, 5);
+            return x;
+        });
+        for (int no : new int[] {-1, LEAST, 4, MOST}) {
+            due.isTrue("nothing but THE TRACE goes", without.equals(Seen.all(() -> {
+                WayBoxes x = Made.some();
+                x.act(no, 0, 5);
+                x.act(0, no, 5);
+                x.act(0, 0, 5);
+                return x;
+            })));
+        }
     }
 
     private static void noTraceThen(int box, int act) {

@@ -119,6 +119,10 @@ public final class ImageEdgesTest {
         undone("feed", x -> x.feed(7, 7));
         undone("a FAULT", x -> Due.text(x, "z"));
         undone("text", x -> x.text());
+        undone("a TAPE that is begun anew", x -> {
+            x.text();
+            Due.feed(x, "zzzzzzzz");
+        });
         undone("box", x -> x.box(1, 1));
         undone("work", x -> x.work(0, 0, 0, 0, 77));
         undone("work that breaks", x -> x.work(2, 2, 0, 2, 0));

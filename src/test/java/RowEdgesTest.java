@@ -27,6 +27,7 @@ public final class RowEdgesTest {
         twentyWait();
         twentyWaitAgain();
         waitsStayAsTheyWere();
+        oneWaitsWithoutARow();
         releaseOfNothing();
         wholeWraps();
         wholeOfEachCell();
@@ -299,6 +300,20 @@ public final class RowEdgesTest {
         due.is("TALK and N", 99, x.cell(1, 0, 0, 15));
         due.is("HOUSE", 99, x.cell(1, 1, 0, 3));
         due.is("KIND", 3, x.cell(1, 2, 0, 0));
+    }
+
+    private static void oneWaitsWithoutARow() {
+        WayBoxes x = Due.boxes("*:g0=g0+1");
+        x.row(0);
+        x.hold(1);
+        x.send(0, 0, 0, 0);
+        x.row(-1);
+        due.is("STATE", -3, x.release());
+        due.is("it waits", 1, x.count(3));
+        due.is("HELD", 1, x.count(4));
+        x.row(0);
+        due.is("LET GO", 1, x.release());
+        due.is("it went", 1, x.cell(0, 2, 0, 0));
     }
 
     private static void releaseOfNothing() {
