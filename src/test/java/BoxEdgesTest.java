@@ -19,6 +19,7 @@ public final class BoxEdgesTest {
         firstLineThatHolds();
         withoutAnEnding();
         nothingBehindAnEnding();
+        nothingOfTheNextLine();
         brokenTakesFour();
         workWhateverItLeads();
         cellOfAnything();
@@ -214,6 +215,21 @@ public final class BoxEdgesTest {
                 due.is("ahead of it", 1, x.cell(0, 2, 0, 0));
                 due.is("behind it", 0, x.cell(0, 2, 1, 0));
                 due.is("behind it", 0, x.cell(0, 2, 2, 0));
+            }
+        }
+    }
+
+    /** Nor is anything of the LINES behind it, however long they are. */
+    private static void nothingOfTheNextLine() {
+        for (int tests = 1; tests <= 35; tests++) {
+            for (int nots = 0; nots <= 3; nots++) {
+                StringBuilder bytes = new StringBuilder("0:p,p,p,p,p;1(").append("!!!", 0, nots).append("k=k");
+                for (int more = 1; more < tests; more++) bytes.append("&k=k");
+                bytes.append("):d");
+                for (int ps = 5; ps >= 1; ps--) {
+                    due.is(bytes.toString(), 1, Due.boxes(bytes.toString()).work(0, 0, 0, 0, 0));
+                    bytes.delete(2, 4);
+                }
             }
         }
     }
