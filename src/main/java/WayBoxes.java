@@ -599,14 +599,18 @@ public final class WayBoxes {
             return true;
         }
 
+        /** F, with the !'s ahead of it: each of them is open till F ends. */
         private boolean readsF(int open) {
-            boolean not = next() == '!';
-            if (!not && next() != '(') return readsTest();
-            if (open >= MOST_OPEN) return false;
-            at++;
-            if (!not) return readsE(open + 1) && takes(')');
-            if (!readsF(open + 1)) return false;
-            text.add(NOT);
+            int within = open;
+            while (within < MOST_OPEN && takes('!')) within++;
+            if (next() == '(') {
+                if (within >= MOST_OPEN) return false;
+                at++;
+                if (!readsE(within + 1) || !takes(')')) return false;
+            } else if (!readsTest()) {
+                return false;
+            }
+            for (int not = open; not < within; not++) text.add(NOT);
             return true;
         }
 
@@ -786,20 +790,23 @@ public final class WayBoxes {
                 kind = ABOVE[kind];
             }
             int body = BODIES[kind * ACTS + act];
-            int above = ABOVE[kind];
             if (ran < MOST_KEPT) kept[ran] = body;
             ran++;
-            int deeper = depth + 1;
+            return answerOf(body, ABOVE[kind], x, depth + 1);
+        }
+
+        /** What a body answers that stands in the KIND under the one told as above. */
+        private int answerOf(int body, int above, int x, int depth) {
             switch (body) {
                 case 1: return x + number;
-                case 2: return runsFrom(ownKind, KEEPS, x, deeper) - lineCount;
-                case 3: return runsFrom(ownKind, WORKS, x, deeper) * 2;
-                case 11: return runsFrom(above, WORKS, x * 3, deeper);
-                case 21: return -runsFrom(above, KEEPS, x, deeper);
-                case 31: return runsFrom(above, LEADS, x, deeper) ^ 5;
-                case 41: return runsFrom(above, LEADS, x - 1, deeper) + runsFrom(ownKind, KEEPS, 2, deeper);
-                case 51: return runsFrom(above, WORKS, x, deeper) + number;
-                case 61: return runsFrom(above, KEEPS, x + 1, deeper) ^ 9;
+                case 2: return runsFrom(ownKind, KEEPS, x, depth) - lineCount;
+                case 3: return runsFrom(ownKind, WORKS, x, depth) * 2;
+                case 11: return runsFrom(above, WORKS, x * 3, depth);
+                case 21: return -runsFrom(above, KEEPS, x, depth);
+                case 31: return runsFrom(above, LEADS, x, depth) ^ 5;
+                case 41: return runsFrom(above, LEADS, x - 1, depth) + runsFrom(ownKind, KEEPS, 2, depth);
+                case 51: return runsFrom(above, WORKS, x, depth) + number;
+                case 61: return runsFrom(above, KEEPS, x + 1, depth) ^ 9;
                 default: return 0;
             }
         }
@@ -907,20 +914,23 @@ public final class WayBoxes {
         /** How long the shortest row of 1 to d packets is that is looked for; 0: there is none. */
         int shortest(int d) {
             for (int length = 1; length <= d && length <= DEEPEST; length++) {
-                if (finds(0, length)) return length;
+                if (finds(this, 0, length)) return length;
             }
             return 0;
         }
 
-        /** Whether the row's first places (so many) can go on to a row of a length that is looked for. */
-        private boolean finds(int many, int length) {
-            if (many >= length || length > DEEPEST) return false;
-            for (int place = 0; place < letterCount; place++) {
-                Packet packet = letters[place];
+        /**
+         * Whether the row's first places (so many) can go on to a row of a length that is looked for.
+         * Static, since LANGUAGE.md lets only a static method call itself.
+         */
+        private static boolean finds(Search its, int many, int length) {
+            if (many < 0 || many >= length || length > DEEPEST) return false;
+            for (int place = 0; place < its.letterCount; place++) {
+                Packet packet = its.letters[place];
                 if (packet == null) continue;
-                row[many] = place;
-                boolean hit = form == APART ? partsWays(many, packet) : breaks(many, packet);
-                if (many + 1 == length ? hit : finds(many + 1, length)) return true;
+                its.row[many] = place;
+                boolean hit = its.form == APART ? its.partsWays(many, packet) : its.breaks(many, packet);
+                if (many + 1 == length ? hit : finds(its, many + 1, length)) return true;
             }
             return false;
         }

@@ -40,6 +40,7 @@ public final class RulesTest {
         loops(bare);
         methodLengths(bare);
         callDepths(bare);
+        recursion(bare);
         due.end();
     }
 
@@ -157,20 +158,43 @@ public final class RulesTest {
 
     /** Calls that are no recursion go at most eight deep; methods of one name are taken for one. */
     private static void callDepths(String bare) {
-        Map<String, Set<String>> calls = new TreeMap<>();
-        for (String method : methods(bare)) calls.computeIfAbsent(nameOf(method), name -> new TreeSet<>());
-        for (String method : methods(bare)) {
-            Matcher called = Pattern.compile("(\\w+)\\(").matcher(method.substring(method.indexOf('{')));
-            while (called.find()) {
-                if (calls.containsKey(called.group(1))) calls.get(nameOf(method)).add(called.group(1));
-            }
-        }
+        Map<String, Set<String>> calls = calls(bare, "(\\w+)\\(");
         due.isTrue("methods are found", calls.size() > 80 && calls.get("orders").contains("shortest"));
         Map<String, Integer> depths = new HashMap<>();
         for (String name : calls.keySet()) {
             int depth = depth(name, calls, depths);
             due.isTrue(name + " goes " + depth + " deep", depth <= 8);
         }
+    }
+
+    /** Which methods each method calls, as a pattern of a call finds them. */
+    private static Map<String, Set<String>> calls(String bare, String pattern) {
+        Map<String, Set<String>> calls = new TreeMap<>();
+        for (String method : methods(bare)) calls.computeIfAbsent(nameOf(method), name -> new TreeSet<>());
+        for (String method : methods(bare)) {
+            Matcher called = Pattern.compile(pattern).matcher(method.substring(method.indexOf('{')));
+            while (called.find()) {
+                if (calls.containsKey(called.group(1))) calls.get(nameOf(method)).add(called.group(1));
+            }
+        }
+        return calls;
+    }
+
+    /** A method that calls itself is private and static, methods that call one another are private. */
+    private static void recursion(String bare) {
+        // A call behind a dot is another object's.
+        Map<String, Set<String>> calls = calls(bare, "(?<![.\\w])(\\w+)\\(");
+        Set<String> again = new TreeSet<>();
+        for (String method : methods(bare)) {
+            String name = nameOf(method);
+            String head = method.trim();
+            if (!reached(name, calls).contains(name)) continue;
+            again.add(name);
+            due.isTrue(name + " is private", head.startsWith("private "));
+            boolean calledByItself = calls.get(name).contains(name);
+            due.isTrue(name + " is static", !calledByItself || head.startsWith("private static "));
+        }
+        due.isTrue("recursion is found: " + again, again.contains("finds") && again.contains("readsE"));
     }
 
     private static Set<String> reached(String name, Map<String, Set<String>> calls) {
